@@ -870,9 +870,11 @@ public final class TongueGlass {
 
     /** Asks THE LAW and lets minutes pass, for the court that is and for one in thought alike. */
     private static final class Bench {
+        /** Nine levels of B hold two values each and a comparison four more: 22 at most. */
+        private static final int MOST_HELD = 64;
         private final World world;
         private final int[] names = new int[Scribe.NAMES];
-        private final int[] stack = new int[TAPE_BYTES];
+        private final int[] stack = new int[MOST_HELD];
 
         Bench(World world) {
             this.world = world;

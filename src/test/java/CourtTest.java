@@ -18,10 +18,13 @@ public final class CourtTest {
         theBook();
         bookIsFull();
         inThought();
+        topAtItsEdge();
+        allWitnessesGiven();
         hottest();
         undoing();
         whatForgets();
         theImage();
+        theBookOfTheImage();
         wrongAsks();
         due.tell();
     }
@@ -385,6 +388,37 @@ public final class CourtTest {
         due.is("more OFF than now", x.top(0), -1);
     }
 
+    private static void topAtItsEdge() {
+        TongueGlass x = court(1, 1);
+        x.act(0, 0, 0);
+        Due.text(x, 0, "warms 99; cools 0;");
+        x.set(1, 0, 400);
+        due.lines(x, 1, "at 59 glass 0 say 0;", 1);
+        due.is("off the top in the 60th", x.top(0), 60);
+        due.is("goes(59, 1)", x.goes(59, 1), 0);
+        due.is("goes(60, 1)", x.goes(60, 1), 1);
+        due.lines(x, 1, "at 60 glass 0 say 0;", 1);
+        due.is("off the top in the 61st", x.top(0), -1);
+        x.minutes(1);
+        due.is("one is gone by", x.top(0), 60);
+    }
+
+    private static void allWitnessesGiven() {
+        TongueGlass x = court(6, 12);
+        Due.text(x, 0, "warms 99;");
+        for (int round = 0; round < 2; round++) {
+            for (int g = 0; g < 6; g++) {
+                x.set(1, g, 420);
+                x.act(0, g, 6 * round + g);
+                x.act(2, g, g);
+            }
+            due.is("goes(1, 3)", x.goes(1, 3), 6 * round + 6);
+            due.is("minutes(1)", x.minutes(1), 6);
+        }
+        due.is("GIVEN of the last", x.who(11, 3), 1);
+        due.is("goes(60, 1)", x.goes(60, 1), 12);
+    }
+
     private static void hottest() {
         TongueGlass x = court(1, 1);
         Due.text(x, 3, "witness 0 keeps 6 3;");
@@ -534,6 +568,28 @@ public final class CourtTest {
             due.is("fault() is not of it", x.fault(0), 2);
             due.is("nor is the TAPE", x.text(3), 1);
             due.is("so it was told", x.who(0, 1), 512);
+        }
+    }
+
+    /** Undo and new lines write over those that the image has. */
+    private static void theBookOfTheImage() {
+        TongueGlass x = court(2, 2);
+        x.act(0, 0, 0);
+        x.act(0, 1, 1);
+        x.image(true);
+        for (int again = 0; again < 2; again++) {
+            x.undo();
+            x.undo();
+            x.minutes(3);
+            x.act(0, 1, 0);
+            x.act(0, 0, 1);
+            x.act(1, 0, 0);
+            due.is("image(false)", x.image(false), true);
+            int[] lines = {0, 0, 0, 0, 0, 0, 1, 1};
+            for (int i = 0; i < 8; i++) {
+                due.is("book(" + i / 4 + ", " + i % 4 + ")", x.book(i / 4, i % 4), lines[i]);
+            }
+            due.is("look(4)", x.look(4), 2);
         }
     }
 

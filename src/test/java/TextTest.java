@@ -75,6 +75,18 @@ public final class TextTest {
         due.fault(x, 0, "warm 1;", 1, 0);
         due.fault(x, 0, "warmss 1;", 1, 0);
         due.fault(x, 0, "warmscools 1;", 1, 0);
+        for (char c : new char[] {'a', 'z', 'A', 'Z'}) {
+            due.fault(x, 0, "warms" + c + " 1;", 1, 0);
+        }
+        for (char c : new char[] {'a' - 1, 'z' + 1, 'A' - 1, 'Z' + 1, '0' - 1, '9' + 1, 0, 127, 255}) {
+            due.fault(x, 0, "warms" + c + " 1;", 1, 5);
+        }
+        due.fault(x, 0, times(";", 400), 1, 0);
+        due.fault(x, 0, "warms " + times("1+", 197), 1, 400);
+        due.lines(x, 0, "warms " + times("1+", 196) + "1;", 1);
+        due.is("197 times 1, held", x.of(0, 5), 99);
+        due.lines(x, 0, "cools 1" + times("*1", 196) + ";", 1);
+        due.is("1", x.of(0, 7), 1);
         due.fault(x, 0, "warms\t1;", 1, 5);
         due.fault(x, 0, "warms 1;\r", 1, 8);
         due.fault(x, 0, "warms 1.", 1, 7);
@@ -140,6 +152,8 @@ public final class TextTest {
         due.is("warms", x.of(0, 5), 3);
         due.lines(x, 0, "warms 4 when (" + times("not ", 7) + "1=1 or " + times("not ", 7) + "1=2);", 1);
         due.is("warms", x.of(0, 5), 4);
+        due.lines(x, 0, "warms 6 when " + times("1=2 or 1=1 and (", 8) + "0*2+3*4+1=1+2*6" + times(")", 8) + ";", 1);
+        due.is("all that can be held at once", x.of(0, 5), 6);
         due.fault(x, 0, "warms 1 when " + times("(", 8) + ")", 1, 21);
     }
 
