@@ -1369,15 +1369,10 @@ public final class TongueGlass {
             return true;
         }
 
-        /** A TOPIC that is none of those in had; one too many is refused only if nothing worse is. */
-        private boolean takeNewTopic(int had, boolean tooMany) {
-            if (tape.kind == Tape.NUMBER && isTopic(tape.value)) {
-                if ((had >> tape.value & 1) == 1) {
-                    return refuse(2);
-                }
-                if (tooMany) {
-                    return refuse(3);
-                }
+        /** A TOPIC that may not stand there, but is one, is refused with the kind; what is no TOPIC, as ever. */
+        private boolean takeTopicUnless(boolean refused, int kind) {
+            if (refused && tape.kind == Tape.NUMBER && isTopic(tape.value)) {
+                return refuse(kind);
             }
             return takeNumber(0, TOPICS - 1);
         }
@@ -1420,7 +1415,7 @@ public final class TongueGlass {
                 return false;
             }
             int a = number;
-            if (!takeWord(TOPIC_NEAR) || !takeNewTopic(1 << a, false)) {
+            if (!takeWord(TOPIC_NEAR) || !takeTopicUnless(tape.value == a, 2)) {
                 return false;
             }
             int b = number;
@@ -1441,7 +1436,7 @@ public final class TongueGlass {
             }
             int kept = 0;
             for (int i = 0; i <= MOST_KEPT; i++) {
-                if (!takeNewTopic(kept, i == MOST_KEPT)) {
+                if (!takeTopicUnless(i == MOST_KEPT, 3)) {
                     return false;
                 }
                 kept |= 1 << number;

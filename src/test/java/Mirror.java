@@ -554,15 +554,15 @@ final class Mirror {
     private void keepsLine(Map<Integer, Set<Integer>> keeps) {
         int w = takeNumber(0, now.witnesses.size() - 1);
         take("keeps");
-        Set<Integer> kept = new TreeSet<>();
+        List<Integer> listed = new ArrayList<>();
         do {
-            boolean unlike = kept.add(takeNumber(0, 15));
-            if (!unlike || kept.size() == 7) {
+            listed.add(takeNumber(0, 15));
+            if (listed.size() == 7) {
                 at--;
-                throw faulty(unlike ? 3 : 2);
+                throw faulty(3);
             }
         } while (isNumber());
-        keeps.put(w, kept);
+        keeps.put(w, new TreeSet<>(listed));
     }
 
     private Node any(int open) {

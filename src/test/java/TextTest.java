@@ -296,10 +296,12 @@ public final class TextTest {
         due.is("of several lines the last", x.who(0, 1), 256);
         due.is("the other", x.who(1, 1), 128);
         due.fault(x, 3, "witness 0 keeps 0 1 2 3 4 5 6;", 3, 28);
-        due.fault(x, 3, "witness 0 keeps 0 1 2 3 4 5 5;", 2, 28);
+        due.fault(x, 3, "witness 0 keeps 0 1 2 3 4 5 5;", 3, 28);
+        due.fault(x, 3, "witness 0 keeps 1 1 1 1 1 1 1;", 3, 28);
         due.fault(x, 3, "witness 0 keeps 0 1 2 3 4 5 16;", 2, 28);
         due.fault(x, 3, "witness 0 keeps 0 1 2 3 4 5 12345;", 1, 28);
-        due.fault(x, 3, "witness 0 keeps 0 1 0;", 2, 20);
+        due.fault(x, 3, "witness 0 keeps 0 1 0 16;", 2, 22);
+        due.fault(x, 3, "witness 0 keeps 1 2 1 ne", 1, 22);
         due.fault(x, 3, "witness 0 keeps;", 1, 15);
         due.fault(x, 3, "witness 2 keeps 1;", 2, 8);
         due.fault(x, 3, "witness 0 near 1;", 1, 10);
@@ -311,6 +313,22 @@ public final class TextTest {
         due.is("the other", x.who(1, 1), 8);
         x.witness(0);
         due.is("a new one keeps nothing back", x.who(2, 1), 0);
+        sameTopicAgain(x);
+    }
+
+    /** The same TOPIC again is a FAULT of NEAR alone; KEEPS is a set, so that it counts once. */
+    private static void sameTopicAgain(TongueGlass x) {
+        due.lines(x, 3, "witness 0 keeps 4 2 4;", 1);
+        due.is("no FAULT", x.fault(0), 0);
+        due.is("no place", x.fault(1), -1);
+        due.is("KEEPS", x.who(0, 1), 16 + 4);
+        due.lines(x, 3, "witness 1 keeps 15 15 15 15 15 15;", 1);
+        due.is("six times the same", x.who(1, 1), 32768);
+        due.lines(x, 0, "cools keeps;", 1);
+        x.act(0, 0, 1);
+        due.is("how many TOPICS", x.of(0, 7), 1);
+        due.lines(x, 2, "topic 3 near 4 5;topic 3 near 4 6;topic 4 near 3 2;", 3);
+        due.is("of several the greatest", x.near(3, 4), 6);
     }
 
     private static void linesOfEach() {
