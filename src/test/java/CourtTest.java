@@ -29,17 +29,6 @@ public final class CourtTest {
         due.tell();
     }
 
-    private static TongueGlass court(int glasses, int witnesses) {
-        TongueGlass x = new TongueGlass();
-        for (int i = 0; i < glasses; i++) {
-            x.glass(0);
-        }
-        for (int i = 0; i < witnesses; i++) {
-            x.witness(0);
-        }
-        return x;
-    }
-
     private static void aNewObject() {
         TongueGlass x = new TongueGlass();
         for (int what = 0; what <= 10; what++) {
@@ -58,7 +47,7 @@ public final class CourtTest {
     }
 
     private static void statesAndDraws() {
-        TongueGlass x = court(1, 1);
+        TongueGlass x = Due.court(1, 1);
         due.is("state(7)", x.state(7), 0);
         due.is("state(-5)", x.state(-5), 7);
         due.is("look(5)", x.look(5), -5);
@@ -118,7 +107,7 @@ public final class CourtTest {
     }
 
     private static void setting() {
-        TongueGlass x = court(1, 1);
+        TongueGlass x = Due.court(1, 1);
         due.is("set(0, 0, 99)", x.set(0, 0, 99), true);
         due.is("LEARNT", x.of(0, 0), 99);
         due.is("set(0, 0, 100)", x.set(0, 0, 100), false);
@@ -139,7 +128,7 @@ public final class CourtTest {
     }
 
     private static void acting() {
-        TongueGlass x = court(2, 2);
+        TongueGlass x = Due.court(2, 2);
         due.is("act(0, 0, 2): no such witness", x.act(0, 0, 2), false);
         due.is("act(0, 0, -1)", x.act(0, 0, -1), false);
         due.is("act(0, 2, 0): no such glass", x.act(0, 2, 0), false);
@@ -174,7 +163,7 @@ public final class CourtTest {
     }
 
     private static void minutesAndTime() {
-        TongueGlass x = court(1, 1);
+        TongueGlass x = Due.court(1, 1);
         due.is("minutes(0)", x.minutes(0), -1);
         due.is("minutes(61)", x.minutes(61), -1);
         for (int i = 0; i < 166; i++) {
@@ -191,7 +180,7 @@ public final class CourtTest {
     }
 
     private static void warmingAndLearning() {
-        TongueGlass x = court(2, 1);
+        TongueGlass x = Due.court(2, 1);
         x.set(0, 0, 98);
         Due.text(x, 3, "witness 0 keeps 4;");
         Due.text(x, 2, "topic 4 near 5 1;");
@@ -221,7 +210,7 @@ public final class CourtTest {
     }
 
     private static void slipping() {
-        TongueGlass x = court(1, 1);
+        TongueGlass x = Due.court(1, 1);
         Due.text(x, 3, "witness 0 keeps 4;");
         Due.text(x, 0, "slips 400 when time<20; slips 1000;");
         x.set(1, 0, 350);
@@ -255,7 +244,7 @@ public final class CourtTest {
     }
 
     private static void cooling() {
-        TongueGlass x = court(2, 1);
+        TongueGlass x = Due.court(2, 1);
         x.set(1, 0, 310);
         x.set(1, 1, 310);
         x.act(0, 0, 0);
@@ -275,7 +264,7 @@ public final class CourtTest {
     }
 
     private static void offTheTop() {
-        TongueGlass x = court(2, 2);
+        TongueGlass x = Due.court(2, 2);
         Due.text(x, 3, "witness 0 keeps 0; witness 1 keeps 0;");
         x.set(1, 0, 390);
         x.set(1, 1, 391);
@@ -298,7 +287,7 @@ public final class CourtTest {
     }
 
     private static void walking() {
-        TongueGlass x = court(3, 2);
+        TongueGlass x = Due.court(3, 2);
         x.set(1, 0, 400);
         x.set(0, 0, 9);
         Due.text(x, 3, "witness 0 keeps 1;");
@@ -325,7 +314,7 @@ public final class CourtTest {
     }
 
     private static void theBook() {
-        TongueGlass x = court(2, 2);
+        TongueGlass x = Due.court(2, 2);
         x.minutes(3);
         x.act(0, 1, 0);
         int[] line = {3, 0, 1, 0};
@@ -344,7 +333,7 @@ public final class CourtTest {
     }
 
     private static void bookIsFull() {
-        TongueGlass x = court(1, 1);
+        TongueGlass x = Due.court(1, 1);
         for (int i = 0; i < 80; i++) {
             due.is("under", x.act(0, 0, 0), true);
             due.is("out", x.act(1, 0, 0), true);
@@ -355,7 +344,7 @@ public final class CourtTest {
     }
 
     private static void inThought() {
-        TongueGlass x = court(2, 2);
+        TongueGlass x = Due.court(2, 2);
         x.state(99);
         Due.text(x, 3, "witness 0 keeps 0;");
         Due.text(x, 1, "at 0 glass 0 under 0; at 0 glass 0 say 0; at 1 glass 0 say 0; at 2 glass 0 say 0;");
@@ -389,7 +378,7 @@ public final class CourtTest {
     }
 
     private static void topAtItsEdge() {
-        TongueGlass x = court(1, 1);
+        TongueGlass x = Due.court(1, 1);
         x.act(0, 0, 0);
         Due.text(x, 0, "warms 99; cools 0;");
         x.set(1, 0, 400);
@@ -404,7 +393,7 @@ public final class CourtTest {
     }
 
     private static void allWitnessesGiven() {
-        TongueGlass x = court(6, 12);
+        TongueGlass x = Due.court(6, 12);
         Due.text(x, 0, "warms 99;");
         for (int round = 0; round < 2; round++) {
             for (int g = 0; g < 6; g++) {
@@ -420,7 +409,7 @@ public final class CourtTest {
     }
 
     private static void hottest() {
-        TongueGlass x = court(1, 1);
+        TongueGlass x = Due.court(1, 1);
         Due.text(x, 3, "witness 0 keeps 6 3;");
         Due.text(x, 2, "topic 3 near 2 9;");
         due.is("under nobody", x.hottest(0, 0), -1);
@@ -440,7 +429,7 @@ public final class CourtTest {
     }
 
     private static void undoing() {
-        TongueGlass x = court(1, 1);
+        TongueGlass x = Due.court(1, 1);
         Due.text(x, 3, "witness 0 keeps 0;");
         x.set(0, 0, 5);
         x.set(1, 0, 400);
@@ -486,7 +475,7 @@ public final class CourtTest {
     }
 
     private static void whatForgets() {
-        TongueGlass x = court(1, 1);
+        TongueGlass x = Due.court(1, 1);
         x.minutes(2);
         x.set(0, 0, 100);
         x.glass(100);
@@ -531,7 +520,7 @@ public final class CourtTest {
     }
 
     private static void theImage() {
-        TongueGlass x = court(1, 1);
+        TongueGlass x = Due.court(1, 1);
         tellForThought(x, 3);
         Due.text(x, 0, "warms 1;");
         Due.text(x, 1, "at 500 glass 0 out;");
@@ -573,7 +562,7 @@ public final class CourtTest {
 
     /** Undo and new lines write over those that the image has. */
     private static void theBookOfTheImage() {
-        TongueGlass x = court(2, 2);
+        TongueGlass x = Due.court(2, 2);
         x.act(0, 0, 0);
         x.act(0, 1, 1);
         x.image(true);
@@ -631,7 +620,7 @@ public final class CourtTest {
     }
 
     private static void wrongAsks() {
-        TongueGlass x = court(6, 12);
+        TongueGlass x = Due.court(6, 12);
         int[] odd = {Integer.MIN_VALUE, Integer.MIN_VALUE + 1, -2, 99999, Integer.MAX_VALUE};
         for (int v : odd) {
             due.is("glass", x.glass(v), -1);

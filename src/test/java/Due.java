@@ -1,6 +1,22 @@
 /** What the tests share: counting wrong answers, and bringing a text onto the TAPE. */
 final class Due {
+    private static final int MOST_MILLISECONDS = 300000;
     private int wrong;
+
+    /** A call that does not end is a wrong answer, too. */
+    Due() {
+        Thread watch = new Thread(() -> {
+            try {
+                Thread.sleep(MOST_MILLISECONDS);
+            } catch (InterruptedException e) {
+                return;
+            }
+            System.out.println("a call did not end");
+            Runtime.getRuntime().halt(1);
+        });
+        watch.setDaemon(true);
+        watch.start();
+    }
 
     void is(String call, long got, long want) {
         if (got != want) {
@@ -19,6 +35,35 @@ final class Due {
         if (wrong != 0) {
             System.exit(1);
         }
+    }
+
+    /** What lies next to bounds on each side, and the ends of int. */
+    static int[] beyond(int low, int high) {
+        return new int[] {low - 1, high + 1, Integer.MIN_VALUE, Integer.MAX_VALUE};
+    }
+
+    /** The bounds themselves, and what lies next to them within. */
+    static int[] bounds(int low, int high) {
+        return new int[] {low, low + 1, high - 1, high};
+    }
+
+    static String times(String part, int n) {
+        StringBuilder all = new StringBuilder();
+        for (int i = 0; i < n; i++) {
+            all.append(part);
+        }
+        return all.toString();
+    }
+
+    static TongueGlass court(int glasses, int witnesses) {
+        TongueGlass x = new TongueGlass();
+        for (int i = 0; i < glasses; i++) {
+            x.glass(0);
+        }
+        for (int i = 0; i < witnesses; i++) {
+            x.witness(0);
+        }
+        return x;
     }
 
     static void feed(TongueGlass x, String text) {

@@ -3,7 +3,8 @@ import java.util.Random;
 /** Long runs of calls by chance (always the same ones), each answered by the class and by the mirror. */
 public final class MirrorTest {
     private static final int RUNS = 400;
-    private static final int CALLS = 512;
+    /** A step makes some twenty calls at most, and what an object answers behind its 512th is free. */
+    private static final int CALLS = 480;
     private final Due due;
     private final Random random;
     private final TongueGlass x = new TongueGlass();

@@ -81,11 +81,11 @@ public final class TextTest {
         for (char c : new char[] {'a' - 1, 'z' + 1, 'A' - 1, 'Z' + 1, '0' - 1, '9' + 1, 0, 127, 255}) {
             due.fault(x, 0, "warms" + c + " 1;", 1, 5);
         }
-        due.fault(x, 0, times(";", 400), 1, 0);
-        due.fault(x, 0, "warms " + times("1+", 197), 1, 400);
-        due.lines(x, 0, "warms " + times("1+", 196) + "1;", 1);
+        due.fault(x, 0, Due.times(";", 400), 1, 0);
+        due.fault(x, 0, "warms " + Due.times("1+", 197), 1, 400);
+        due.lines(x, 0, "warms " + Due.times("1+", 196) + "1;", 1);
         due.is("197 times 1, held", x.of(0, 5), 99);
-        due.lines(x, 0, "cools 1" + times("*1", 196) + ";", 1);
+        due.lines(x, 0, "cools 1" + Due.times("*1", 196) + ";", 1);
         due.is("1", x.of(0, 7), 1);
         due.fault(x, 0, "warms\t1;", 1, 5);
         due.fault(x, 0, "warms 1;\r", 1, 8);
@@ -130,31 +130,23 @@ public final class TextTest {
         due.is("THE LAW stays as it was", x.of(0, 5), 7);
     }
 
-    private static String times(String part, int n) {
-        String all = "";
-        for (int i = 0; i < n; i++) {
-            all += part;
-        }
-        return all;
-    }
-
     private static void lawDepth() {
         TongueGlass x = court();
-        due.lines(x, 0, "warms 1 when " + times("(", 8) + "1=1" + times(")", 8) + ";", 1);
+        due.lines(x, 0, "warms 1 when " + Due.times("(", 8) + "1=1" + Due.times(")", 8) + ";", 1);
         due.is("warms", x.of(0, 5), 1);
-        due.fault(x, 0, "warms 1 when " + times("(", 9) + "1=1" + times(")", 9) + ";", 3, 21);
-        due.lines(x, 0, "warms 2 when " + times("not ", 8) + "1=1;", 1);
+        due.fault(x, 0, "warms 1 when " + Due.times("(", 9) + "1=1" + Due.times(")", 9) + ";", 3, 21);
+        due.lines(x, 0, "warms 2 when " + Due.times("not ", 8) + "1=1;", 1);
         due.is("warms", x.of(0, 5), 2);
-        due.fault(x, 0, "warms 1 when " + times("not ", 9) + "1=1;", 3, 45);
-        due.fault(x, 0, "warms 1 when " + times("not(", 4) + "not 1=1" + times(")", 4) + ";", 3, 29);
-        due.lines(x, 0, "warms 3 when " + times("not(", 4) + "1=1" + times(")", 4) + " and " + times("not(", 4) + "1=1"
-            + times(")", 4) + " or " + times("(", 8) + "2<1" + times(")", 8) + ";", 1);
+        due.fault(x, 0, "warms 1 when " + Due.times("not ", 9) + "1=1;", 3, 45);
+        due.fault(x, 0, "warms 1 when " + Due.times("not(", 4) + "not 1=1" + Due.times(")", 4) + ";", 3, 29);
+        due.lines(x, 0, "warms 3 when " + Due.times("not(", 4) + "1=1" + Due.times(")", 4) + " and " + Due.times("not(", 4) + "1=1"
+            + Due.times(")", 4) + " or " + Due.times("(", 8) + "2<1" + Due.times(")", 8) + ";", 1);
         due.is("warms", x.of(0, 5), 3);
-        due.lines(x, 0, "warms 4 when (" + times("not ", 7) + "1=1 or " + times("not ", 7) + "1=2);", 1);
+        due.lines(x, 0, "warms 4 when (" + Due.times("not ", 7) + "1=1 or " + Due.times("not ", 7) + "1=2);", 1);
         due.is("warms", x.of(0, 5), 4);
-        due.lines(x, 0, "warms 6 when " + times("1=2 or 1=1 and (", 8) + "0*2+3*4+1=1+2*6" + times(")", 8) + ";", 1);
+        due.lines(x, 0, "warms 6 when " + Due.times("1=2 or 1=1 and (", 8) + "0*2+3*4+1=1+2*6" + Due.times(")", 8) + ";", 1);
         due.is("all that can be held at once", x.of(0, 5), 6);
-        due.fault(x, 0, "warms 1 when " + times("(", 8) + ")", 1, 21);
+        due.fault(x, 0, "warms 1 when " + Due.times("(", 8) + ")", 1, 21);
     }
 
     private static void law(String e, int warms) {
@@ -335,10 +327,10 @@ public final class TextTest {
         TongueGlass x = court();
         String[] line = {"warms 1;", "at 0 glass 0 out;", "topic 0 near 1 2;", "witness 0 keeps 1;"};
         for (int k = 0; k < 4; k++) {
-            due.lines(x, k, times(line[k], 16), 16);
-            due.fault(x, k, times(line[k], 17), 3, 16 * line[k].length());
-            due.fault(x, k, times(line[k], 16) + ";", 1, 16 * line[k].length());
+            due.lines(x, k, Due.times(line[k], 16), 16);
+            due.fault(x, k, Due.times(line[k], 17), 3, 16 * line[k].length());
+            due.fault(x, k, Due.times(line[k], 16) + ";", 1, 16 * line[k].length());
         }
-        due.fault(x, 0, times(line[0], 16) + "when", 1, 128);
+        due.fault(x, 0, Due.times(line[0], 16) + "when", 1, 128);
     }
 }
