@@ -63,6 +63,8 @@ public final class CourtEdgesTest {
         topWithin60();
         topIsMoreThanNow();
         thoughtOfTheLast();
+        thoughtGoesBeyond9999();
+        topAt9999();
         hottestTheLeastOfSeveral();
         hottestOfNoneSuch();
         due.tell();
@@ -1109,6 +1111,52 @@ public final class CourtEdgesTest {
             due.is("goes(1, 3)", x.goes(1, 3), round + 1);
             due.is("minutes(1)", x.minutes(1), 1);
         }
+    }
+
+    /** Only minutes() has the bound of TIME; GOES and TOP name their own alone, and THE LAW is asked with the TIME then. */
+    private static void thoughtGoesBeyond9999() {
+        String law = "cools 2 when time > 9999; cools 1; slips 500 when said = 1;";
+        TongueGlass x = tried(420, 0, law);
+        later(x, 9999);
+        x.set(1, 0, 420);
+        due.is("minutes(1) at 9999", x.minutes(1), -1);
+        for (int n = 1; n <= 60; n++) {
+            due.is("goes(" + n + ", 0) at 9999", x.goes(n, 0), 421 - 2 * n);
+        }
+        TongueGlass y = tried(420, 0, law);
+        later(y, 9990);
+        y.set(1, 0, 420);
+        due.is("goes(9, 0) at 9990", y.goes(9, 0), 411);
+        due.is("goes(10, 0) at 9990", y.goes(10, 0), 410);
+        due.is("goes(11, 0) at 9990", y.goes(11, 0), 408);
+        due.is("goes(60, 0) at 9990", y.goes(60, 0), 310);
+        due.is("minutes(10) at 9990", y.minutes(10), -1);
+        due.lines(y, 0, "cools 0; slips 500 when time = 9999 + 31;", 2);
+        due.is("goes(40, 0), ahead of 10030", y.goes(40, 0), 420);
+        due.is("goes(41, 0), slipped at 10030", y.goes(41, 0), 300);
+        due.is("TIME stays", y.look(2), 9990);
+        due.is("READS stays", y.of(0, 1), 420);
+    }
+
+    /** The MINUTE that can't go by any more can be thought. */
+    private static void topAt9999() {
+        TongueGlass x = tried(420, 0, "warms time - 9990;");
+        later(x, 9999);
+        x.set(1, 0, 420);
+        due.is("top(0), nothing SAID", x.top(0), -1);
+        x.act(2, 0, 0);
+        due.is("top(0) at 9999", x.top(0), 1);
+        due.is("warms", x.of(0, 5), 9);
+        for (int n : Due.bounds(1, 60)) {
+            for (int what = 1; what <= 3; what++) {
+                due.is("goes(" + n + ", " + what + ") at 9999", x.goes(n, what), 1);
+            }
+        }
+        due.is("minutes(1)", x.minutes(1), -1);
+        due.is("TIME", x.look(2), 9999);
+        due.is("OFF", x.of(0, 4), 0);
+        due.is("GIVEN", x.who(0, 3), 0);
+        due.is("SAID", x.of(0, 3), 0);
     }
 
     private static void hottestTheLeastOfSeveral() {

@@ -31,6 +31,9 @@ public final class MirrorTest {
             same("glass", x.glass(i), m.glass(i));
             same("witness", x.witness(i), m.witness(i));
         }
+        for (int i = 0; i < 166 && run % 16 == 5; i++) {
+            same("minutes(60) on the way to 9999", x.minutes(60), m.minutes(60));
+        }
         while (calls < CALLS) {
             step();
         }
